@@ -296,7 +296,7 @@ public final class RopeTackle {
             throw new IllegalStateException("nothing is saved");
         }
         nextSlot = Math.floorMod(nextSlot - 1, MOST_SAVED);
-        State last = saved[nextSlot];
+        State last = savedAt(nextSlot);
         if (last != null) {
             now.copyFrom(last);
         }
@@ -331,12 +331,16 @@ public final class RopeTackle {
 
     /** Saves the state for undo; the ring lets go of the oldest one by itself. */
     private void save() {
-        State slot = saved[Math.floorMod(nextSlot, MOST_SAVED)];
+        State slot = savedAt(nextSlot);
         if (slot != null) {
             slot.copyFrom(now);
         }
         nextSlot = Math.floorMod(nextSlot + 1, MOST_SAVED);
         savedCount = Math.min(savedCount + 1, MOST_SAVED);
+    }
+
+    private State savedAt(int slot) {
+        return slot >= 0 && slot < saved.length ? saved[slot] : null;
     }
 
     private void acceptTrial() {
@@ -501,7 +505,7 @@ public final class RopeTackle {
             return most - left;
         }
 
-        /** Returns the rope that the rise takes: 0 if there is no block, or the rope does not do. */
+        /** Returns the rope that the rise takes: 0 if it is nobody's turn, or too little rope is left. */
         private int raise(int block, int left) {
             int strands = reeving.strandsOf(block);
             if (!isBlock(block) || strands <= 0) {
@@ -533,7 +537,7 @@ public final class RopeTackle {
             return most - left;
         }
 
-        /** Returns the rope that the sinking takes: 0 if there is no block, or the rope does not do. */
+        /** Returns the rope that the sinking takes: 0 if it is nobody's turn, or too little rope is left. */
         private int sink(int block, int left) {
             int strands = reeving.strandsOf(block);
             if (!isBlock(block) || strands <= 0) {

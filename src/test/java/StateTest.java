@@ -114,14 +114,14 @@ final class StateTest {
         Check.write(x, "ab");
         x.setFriction(0);
         x.addPulley(3);
-        x.haul(500, 101);
+        x.haul(501, 101);
         x.letOut(1, 20);
         x.undo();
         x.letOut(2, 10);
         check.same("digest(), used", x.digest(), hash(
             2,
             60000, 20090, 0, 2, 4, 4, 39910, 1, 1, 2,
-            50000, 50000,
+            50100, 50000,
             1000, 45, 2, 1, 500, 500, 17910,
             1000, 0, 0, 0, -1, -1, 0,
             1000, 0, 0, 0, -1, -1, 0,

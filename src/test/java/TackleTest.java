@@ -127,7 +127,9 @@ final class TackleTest {
 
     private static void setEnd() {
         RopeTackle x = new RopeTackle();
+        x.setWeight(2, 77);
         check.same("setEnd(1)", x.setEnd(1), 4);
+        check.same("the weight stays", x.block(2, 0), 77);
         check.same("the end", x.value(4), 1);
         check.same("strands of 1", x.block(1, 2), 1);
         check.same("setEnd(0)", x.setEnd(0), 1);
@@ -178,6 +180,11 @@ final class TackleTest {
         check.same("haul: 0", x.haul(1500, 100), 100);
         check.same("work put", x.work(false), 500L * 54000 + 1500L * 100);
         check.same("work got", x.work(true), 900L * 9000 + 2000L * 9000 + 3000L * 50);
+        RopeTackle all = Check.reeved("3210.4,100,100,100,100", 0, 100000);
+        check.same("haul all four", all.haul(50, 100000), 72000);
+        check.same("the last one's height", all.block(3, 1), 9000);
+        check.same("let out all four", all.letOut(49, 100000), 72000);
+        check.same("the last one's height", all.block(3, 1), 0);
         // The same lifting force: the lowest number rises first.
         RopeTackle y = Check.reeved("21.4,1000,1000,1000", 0, 60000);
         y.haul(500, 30);
@@ -193,6 +200,10 @@ final class TackleTest {
         x.haul(1000, 36000);
         check.same("the next one, with what is left", x.haul(1000, 3), 2);
         check.same("height of 1 then", x.block(1, 1), 1);
+        RopeTackle one = Check.reeved(".0,1", 0, 10000);
+        check.same("haul the least length with the least force", one.haul(1, 1), 1);
+        check.same("let it out", one.letOut(0, 1), 1);
+        check.same("let out nothing", one.letOut(0, 0), 0);
         RopeTackle y = new RopeTackle();
         y.setWeight(0, 0);
         check.same("a block of no weight rises with no force", y.haul(0, 10), 10);

@@ -101,6 +101,7 @@ final class ValuesTest {
         check.same("pull(1, 1005, true)", x.pull(1, 1005, true), 734 + 661);
         check.same("pull(0, 1005, false)", x.pull(0, 1005, false), 1105 + 1215 + 1615);
         check.same("pull(1, 1005, false)", x.pull(1, 1005, false), 1336 + 1469);
+        check.same("pull(0, 0, true)", x.pull(0, 0, true), 0);
         check.same("pull(2, 1005, true), no strands", x.pull(2, 1005, true), 0);
         check.refuses(x, "pull(-1, 0, true)", Check.INDEX, () -> x.pull(-1, 0, true));
         check.refuses(x, "pull(4, 0, true)", Check.INDEX, () -> x.pull(4, 0, true));

@@ -121,6 +121,7 @@ final class WhatIfTest {
         check.same("riseBy(0, ..), the last one", x.riseBy(0, 1500, 100000), 9000);
         check.same("riseBy(0, ..), too little force", x.riseBy(0, 1499, 100000), 0);
         check.same("riseBy(3, ..), no strands", x.riseBy(3, 1000000, 100000), 0);
+        check.same("riseBy(0, 0, 0)", x.riseBy(0, 0, 0), 0);
         check.same("riseBy changes nothing", x.digest(), before);
         x.haul(450, 100);
         check.same("riseBy(2, ..), from where it is", x.riseBy(2, 450, 100000), 8950);
@@ -139,6 +140,9 @@ final class WhatIfTest {
         check.sameDouble("efficiency()", x.efficiency(), 50000.0 / 58400.0);
         x.haul(1000000, 100);
         check.sameDouble("efficiency(), wasted", x.efficiency(), 100000.0 / 100058400.0);
+        RopeTackle one = Check.reeved(".0,1", 0, 10000);
+        one.haul(1, 1);
+        check.sameDouble("efficiency(), the least work", one.efficiency(), 1.0);
         RopeTackle y = new RopeTackle();
         y.setWeight(0, 0);
         y.haul(0, 100);
