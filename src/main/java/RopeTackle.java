@@ -491,44 +491,23 @@ public final class RopeTackle {
 
         int moveUp(int hand, int most) {
             reckonForces(true);
-            int left = most;
-            // A block that stops short of the top leaves less rope than one more millimeter
-            // of it needs, and keeps its turn: no block rises twice.
-            for (int turn = 0; turn < BLOCKS; turn++) {
-                int rope = raise(nextToRise(hand), left);
-                if (rope == 0) {
-                    break;
-                }
-                left -= rope;
-            }
-            ledger.workPut += (long) hand * (most - left);
-            return most - left;
+            int rope = moveInTurn(hand, most, true);
+            ledger.workPut += (long) hand * rope;
+            return rope;
         }
 
-        /** Returns the rope that the rise takes: 0 if it is nobody's turn, or too little rope is left. */
-        private int raise(int block, int left) {
-            int strands = reeving.strandsOf(block);
-            if (!isBlock(block) || strands <= 0) {
-                return 0;
-            }
-            int way = Math.min(left / strands, TOP - heightOf(block));
-            if (way <= 0) {
-                return 0;
-            }
-            put(heights, block, heightOf(block) + way);
-            ledger.note(block, way, way * strands);
-            ledger.rises++;
-            ledger.workGot += (long) weightOf(block) * way;
-            return way * strands;
-        }
-
-        int moveDown(int hand, int wished) {
+        int moveDown(int hand, int most) {
             reckonForces(false);
-            int most = Math.min(wished, inHand());
+            return moveInTurn(hand, Math.min(most, inHand()), false);
+        }
+
+        /** Returns the rope that all the moves take. */
+        private int moveInTurn(int hand, int most, boolean up) {
             int left = most;
-            // No block sinks twice, for the reason that none rises twice.
+            // A block that stops short of the top or the floor leaves less rope than one more
+            // millimeter of it needs, and keeps its turn: no block moves twice.
             for (int turn = 0; turn < BLOCKS; turn++) {
-                int rope = sink(nextToSink(hand), left);
+                int rope = moveOne(up ? nextToRise(hand) : nextToSink(hand), left, up);
                 if (rope == 0) {
                     break;
                 }
@@ -537,19 +516,23 @@ public final class RopeTackle {
             return most - left;
         }
 
-        /** Returns the rope that the sinking takes: 0 if it is nobody's turn, or too little rope is left. */
-        private int sink(int block, int left) {
+        /** Returns the rope that the move takes: 0 if it is nobody's turn, or too little rope is left. */
+        private int moveOne(int block, int left, boolean up) {
             int strands = reeving.strandsOf(block);
             if (!isBlock(block) || strands <= 0) {
                 return 0;
             }
-            int way = Math.min(left / strands, heightOf(block));
+            int room = up ? TOP - heightOf(block) : heightOf(block);
+            int way = Math.min(left / strands, room);
             if (way <= 0) {
                 return 0;
             }
-            put(heights, block, heightOf(block) - way);
-            ledger.note(block, -way, -way * strands);
-            ledger.sinkings++;
+            int rise = up ? way : -way;
+            put(heights, block, heightOf(block) + rise);
+            ledger.note(block, rise, rise * strands);
+            if (up) {
+                ledger.workGot += (long) weightOf(block) * way;
+            }
             return way * strands;
         }
     }
@@ -680,7 +663,13 @@ public final class RopeTackle {
             workGot = other.workGot;
         }
 
+        /** The way and the rope of a sinking are negative. */
         void note(int block, int way, int rope) {
+            if (way > 0) {
+                rises++;
+            } else {
+                sinkings++;
+            }
             latest = Math.floorMod(latest + 1, MOST_ENTRIES);
             put(parts, latest * ENTRY_PARTS, block);
             put(parts, latest * ENTRY_PARTS + 1, way);
