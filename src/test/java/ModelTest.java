@@ -2,8 +2,9 @@ import java.util.Random;
 
 /** All promises: long runs of calls, always the same ones, answered by the program as by the model. */
 final class ModelTest {
-    private static final int RUNS = 60;
-    private static final int CALLS = 500;
+    private static final int RUNS = 130;
+    /** A tackle is used for at most 512 calls; the longest step, a text, has 41 of them. */
+    private static final int CALLS = 470;
     private static final Check check = new Check();
 
     private interface Call {
@@ -13,6 +14,7 @@ final class ModelTest {
     private final Random random;
     private final RopeTackle tackle = new RopeTackle();
     private final Model model = new Model();
+    private int calls = 0;
 
     private ModelTest(long seed) {
         random = new Random(seed);
@@ -22,8 +24,8 @@ final class ModelTest {
         for (int run = 0; run < RUNS; run++) {
             ModelTest one = new ModelTest(run);
             one.begin();
-            for (int call = 0; call < CALLS; call++) {
-                one.step("run " + run + ", call " + call + ": ");
+            while (one.calls < CALLS) {
+                one.step("run " + run + ", call " + one.calls + ": ");
             }
         }
         texts();
@@ -38,6 +40,7 @@ final class ModelTest {
     }
 
     private void both(String where, String name, Call program, Call due) {
+        calls++;
         Object got = answer(program);
         Object want = answer(due);
         check.holds(where + name + " answered " + got + ", due is " + want + ": it", got.equals(want));

@@ -12,11 +12,7 @@ final class StateTest {
         check.end();
     }
 
-    private interface Call {
-        void on(RopeTackle tackle);
-    }
-
-    private static void undoes(String what, Call call) {
+    private static void undoes(String what, Check.Call call) {
         RopeTackle x = Check.reeved("01.4,700,900", 10, 100000);
         x.haul(1000, 5000);
         long before = x.digest();
